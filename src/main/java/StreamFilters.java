@@ -374,7 +374,10 @@ public final class StreamFilters {
             return length == end - from && beginsWithPart(other, from, end);
         }
 
-        boolean hasWordAt(String word, int from) {
+        boolean hasWord(String word, int from, int end) {
+            if (word.length() != end - from) {
+                return false;
+            }
             for (int i = 0; i < word.length(); i++) {
                 if (at(from + i) != word.charAt(i)) {
                     return false;
@@ -636,12 +639,12 @@ public final class StreamFilters {
         private int piece;
         private int limit;
         private int number;
-        private boolean rejects;
-        private int shape;
-        private int moduleFrom;
-        private int moduleEnd;
-        private int nameFrom;
-        private int nameEnd;
+        boolean rejects;
+        int shape;
+        int moduleFrom;
+        int moduleEnd;
+        int nameFrom;
+        int nameEnd;
 
         PieceReader(Signs text) {
             this.text = text;
@@ -712,34 +715,30 @@ public final class StreamFilters {
                 piece = EMPTY;
                 return;
             }
-            int sign = text.find('=', from, end);
-            if (sign < end) {
-                piece = readLimit(sign) ? LIMIT : BROKEN;
+            int equalsAt = text.find('=', from, end);
+            if (equalsAt < end) {
+                piece = readLimit(equalsAt) ? LIMIT : BROKEN;
             } else {
                 piece = readClass() ? CLASS : BROKEN;
             }
         }
 
-        private boolean readLimit(int sign) {
-            limit = limitNamed(sign);
-            return limit != NONE && readNumber(sign + 1);
+        private boolean readLimit(int equalsAt) {
+            limit = limitNamed(equalsAt);
+            return limit != NONE && readNumber(equalsAt + 1);
         }
 
-        private int limitNamed(int sign) {
-            if (isLimitName("maxdepth", sign)) {
+        private int limitNamed(int nameEndsAt) {
+            if (text.hasWord("maxdepth", from, nameEndsAt)) {
                 return LIMIT_DEPTH;
             }
-            if (isLimitName("maxrefs", sign)) {
+            if (text.hasWord("maxrefs", from, nameEndsAt)) {
                 return LIMIT_REFS;
             }
-            if (isLimitName("maxbytes", sign)) {
+            if (text.hasWord("maxbytes", from, nameEndsAt)) {
                 return LIMIT_BYTES;
             }
-            return isLimitName("maxarray", sign) ? LIMIT_ARRAY : NONE;
-        }
-
-        private boolean isLimitName(String word, int sign) {
-            return sign - from == word.length() && text.hasWordAt(word, from);
+            return text.hasWord("maxarray", from, nameEndsAt) ? LIMIT_ARRAY : NONE;
         }
 
         private boolean readNumber(int digitsFrom) {
@@ -774,17 +773,17 @@ public final class StreamFilters {
 
         /** What is kept of a name are the signs that a class's name must begin with. */
         private boolean readName() {
-            if (nameEndsWith(".**")) {
+            if (text.hasWord(".**", Math.max(nameFrom, end - 3), end)) {
                 shape = SHAPE_ALL_BELOW;
                 nameEnd = end - 2;
                 return nameEnd - nameFrom >= 2;
             }
-            if (nameEndsWith(".*")) {
+            if (text.hasWord(".*", Math.max(nameFrom, end - 2), end)) {
                 shape = SHAPE_PACKAGE;
                 nameEnd = end - 1;
                 return nameEnd - nameFrom >= 2;
             }
-            if (nameEndsWith("*")) {
+            if (text.hasWord("*", Math.max(nameFrom, end - 1), end)) {
                 shape = SHAPE_BEGINNING;
                 nameEnd = end - 1;
                 return true;
@@ -792,11 +791,6 @@ public final class StreamFilters {
             shape = SHAPE_NAME;
             nameEnd = end;
             return nameEnd > nameFrom;
-        }
-
-        private boolean nameEndsWith(String word) {
-            int wordFrom = end - word.length();
-            return wordFrom >= nameFrom && text.hasWordAt(word, wordFrom);
         }
     }
 }
