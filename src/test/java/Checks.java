@@ -4,16 +4,28 @@ final class Checks {
     static final int NAME = 1;
     static final int MODULE = 2;
 
+    private static final int[] MOST_SIGNS = {90, 40, 12};
+
     private static int wrong = 0;
+    private static String sentence = "";
 
     private Checks() {
+    }
+
+    /** The sentence of the document that the next answers are due by; it stands before what is printed. */
+    static void sentence(String told) {
+        sentence = "\"" + told + "\": ";
     }
 
     static void due(String call, long got, long want) {
         if (got != want) {
             wrong++;
-            System.out.println(call + " answered " + got + ", due is " + want);
+            System.out.println(sentence + call + " answered " + got + ", due is " + want);
         }
+    }
+
+    static int mostSigns(int buffer) {
+        return MOST_SIGNS[buffer];
     }
 
     static void end() {
@@ -50,6 +62,18 @@ final class Checks {
         if (read(x, to, text, bases) < 0) {
             due("read of " + text, x.fault(), -2);
         }
+    }
+
+    /** The filter is JOINED of 24 TEXT FILTERS, each read from the PATTERN of now. */
+    static void makeTwentyFourLeaves(StreamFilters x, int to) {
+        x.read(to, false);
+        x.join(to, to, to);
+        x.join(to, to, to);
+        x.join(to, to, to);
+        x.join(9, to, to);
+        x.join(to, to, 9);
+        due("LEAVES", x.filter(to, 1), 24);
+        x.drop(9);
     }
 
     static int askClass(StreamFilters x, int filter, String name) {

@@ -7,6 +7,9 @@ public final class ModelTest {
     private static final String[] PARTS = {"a", "b", ".", "*", ";", "a", "b", ".", ";", ".*;", ".**;", "*;", "!", "m/", "/",
         "a.*;", "!b*;", "a*;", "m/a;", "m/b*;", "=", "maxdepth", "=1;", "=2;", "maxrefs", "maxbytes", "maxarray", "0", "9", ";maxarray=3;"};
 
+    private static final int[] FAR = {Integer.MIN_VALUE, Integer.MIN_VALUE + 1, -3, -2, 255, 256, Integer.MAX_VALUE - 1,
+        Integer.MAX_VALUE};
+
     private long seed;
     private StreamFilters program;
     private Model model;
@@ -49,9 +52,18 @@ public final class ModelTest {
         return draw(2) == 0;
     }
 
-    /** Mostly 0 to most, at times just outside. */
+    /** Mostly 0 to most, at times just outside, and now and then far outside. */
     private int near(int most) {
-        return draw(25) == 0 ? (coin() ? -1 : most + 1) : draw(most + 1);
+        switch (draw(100)) {
+            case 0, 1:
+                return -1;
+            case 2, 3:
+                return most + 1;
+            case 4:
+                return FAR[draw(FAR.length)];
+            default:
+                return draw(most + 1);
+        }
     }
 
     private long text(int buffer) {
@@ -132,7 +144,7 @@ public final class ModelTest {
         int filter = near(9);
         int sort = draw(3) == 0 ? near(2) : 1;
         int dimensions = sort == 0 ? draw(12) / 11 : coin() ? 0 : near(3);
-        int length = draw(8) - 2;
+        int length = draw(30) == 0 ? FAR[draw(FAR.length)] : draw(8) - 2;
         int due = model.ask(filter, sort, dimensions, length);
         same(where + "ask(" + filter + ", " + sort + ", " + dimensions + ", " + length + ")",
                 program.ask(filter, sort, dimensions, length), due);

@@ -1,5 +1,5 @@
 /** Promise 7. */
-public final class StrictTest {
+public final class Promise07StrictTest {
     public static void main(String[] args) {
         answers(false);
         answers(true);

@@ -1,5 +1,5 @@
 /** Promise 16. */
-public final class SignTest {
+public final class Promise16SignTest {
     public static void main(String[] args) {
         StreamFilters x = new StreamFilters();
         Checks.put(x, Checks.PATTERN, "!~ab");

@@ -1,5 +1,5 @@
 /** Promise 15. */
-public final class PatternTest {
+public final class Promise15PatternTest {
     public static void main(String[] args) {
         StreamFilters x = new StreamFilters();
         Checks.due("of no filter", x.pattern(0, 0, false), -1);

@@ -1,5 +1,5 @@
 /** Promise 12: what a TEXT FILTER answers, and which questions there are. */
-public final class AskTest {
+public final class Promise12AskTest {
     public static void main(String[] args) {
         names();
         onlyOneMarkIsTakenOff();

@@ -1,5 +1,5 @@
 /** Promise 13. */
-public final class TraceTest {
+public final class Promise13TraceTest {
     public static void main(String[] args) {
         StreamFilters x = new StreamFilters();
         Checks.make(x, 0, "a;b;!c;d*", true);

@@ -1,5 +1,5 @@
 /** Promise 1. */
-public final class NewObjectTest {
+public final class Promise01NewObjectTest {
     public static void main(String[] args) {
         StreamFilters x = new StreamFilters();
         for (int buffer = 0; buffer < 3; buffer++) {

@@ -1,5 +1,5 @@
 /** Promise 9. */
-public final class OnlyTest {
+public final class Promise09OnlyTest {
     public static void main(String[] args) {
         answers();
         anyNameBeginsWithNothing();

@@ -1,5 +1,5 @@
 /** Promise 8. */
-public final class OtherwiseTest {
+public final class Promise08OtherwiseTest {
     public static void main(String[] args) {
         for (int given = 0; given < 3; given++) {
             answers(given);

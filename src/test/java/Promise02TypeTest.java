@@ -1,5 +1,5 @@
 /** Promise 2. */
-public final class TypeTest {
+public final class Promise02TypeTest {
     public static void main(String[] args) {
         putsSignsAtTheEnd();
         refusesOtherCodes();

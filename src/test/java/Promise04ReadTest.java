@@ -1,5 +1,5 @@
 /** Promise 4: reading, and what the pieces of a text may be. */
-public final class ReadTest {
+public final class Promise04ReadTest {
     public static void main(String[] args) {
         countsPatterns();
         readsLimits();

@@ -1,5 +1,5 @@
 /** Promise 5: which texts are BAD, and where. */
-public final class FaultTest {
+public final class Promise05FaultTest {
     public static void main(String[] args) {
         String[] good = {"", ";", "a", "!a", "!!", "!*", "*", "**", "***", "a*", "a.*", "a.**", "..*", "..**", ".a.**",
             "m/a", "m/*", "m/a.*", "m/a.**", "m//", "m//*", "!m/a", "!!/a", "m/!", ".", "a.", "*a", ".*a", ".**a",

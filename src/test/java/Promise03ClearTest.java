@@ -1,5 +1,5 @@
 /** Promise 3. */
-public final class ClearTest {
+public final class Promise03ClearTest {
     public static void main(String[] args) {
         StreamFilters x = new StreamFilters();
         Checks.put(x, Checks.PATTERN, "abc");

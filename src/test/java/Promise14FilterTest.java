@@ -1,5 +1,5 @@
 /** Promise 14. */
-public final class FilterTest {
+public final class Promise14FilterTest {
     public static void main(String[] args) {
         StreamFilters x = new StreamFilters();
         tells(x, 0, 0, -1, -1, -1, -1, -1, -1, -1, -1);

@@ -1,5 +1,5 @@
 /** Promise 11. */
-public final class StreamTest {
+public final class Promise11StreamTest {
     private static final int MOST = Integer.MAX_VALUE;
 
     public static void main(String[] args) {

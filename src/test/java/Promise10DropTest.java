@@ -1,5 +1,5 @@
 /** Promise 10. */
-public final class DropTest {
+public final class Promise10DropTest {
     public static void main(String[] args) {
         StreamFilters x = new StreamFilters();
         Checks.due("drop(0) of none", x.drop(0), -1);

@@ -1,5 +1,5 @@
 /** Promise 6. */
-public final class JoinTest {
+public final class Promise06JoinTest {
     private static final String[] ONE_OF_EACH = {"b", "a", "!a"};
 
     public static void main(String[] args) {
