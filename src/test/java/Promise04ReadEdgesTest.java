@@ -18,6 +18,7 @@ public final class Promise04ReadEdgesTest {
         badChangesNothing();
         placesAreTestedBeforeTheText();
         isInThePlaceOfAnyBefore();
+        nothingStaysOfTheTextBefore();
         answersHowManyPatterns();
         looksAtBasesOrNot();
         Checks.end();
@@ -253,6 +254,24 @@ public final class Promise04ReadEdgesTest {
             Checks.due("read in the place of kind " + (to + 1), x.read(to, false), 0);
             Checks.due("its kind", x.filter(to, 0), 1);
             Checks.due("its HIGH", x.filter(to, 2), 1);
+        }
+    }
+
+    private static void nothingStaysOfTheTextBefore() {
+        Checks.sentence("A TEXT FILTER is read from PATTERN");
+        String[] before = {"!long.module.name/a.b.c.**", "maxarray=123456789;maxdepth=7", "a;".repeat(45), ";".repeat(89) + "!",
+            "!m/", "maxdepth=1=", "*", ""};
+        for (String text : before) {
+            StreamFilters x = new StreamFilters();
+            Checks.read(x, 0, text, true);
+            Checks.due("read of 'b' behind '" + text + "'", Checks.read(x, 1, "b", false), 1);
+            Checks.due("what 'b' says", x.pattern(1, 0, false), 1);
+            Checks.due("the shape of 'b'", x.pattern(1, 0, true), 0);
+            for (int limit = 4; limit < 8; limit++) {
+                Checks.due("filter(1, " + limit + ") behind '" + text + "'", x.filter(1, limit), -2);
+            }
+            Checks.due("ask of b", Checks.askClass(x, 1, "b"), 1);
+            Checks.due("ask of another", Checks.askClass(x, 1, "bb"), 0);
         }
     }
 
